@@ -56,7 +56,7 @@ public final class OffTheLead {
         tape = new Tape();
         now = new Park();
         spare = new Park();
-        reader = new ParkReader(tape, spare);
+        reader = new ParkReader();
         pages = new Book();
         phrase = new Sentence();
         draft = new Sentence();
@@ -105,7 +105,7 @@ public final class OffTheLead {
 
     public int park() {
         tape.open(MOST_PARK_BYTES);
-        int lines = reader.readAll();
+        int lines = reader.readAll(tape, spare);
         closeTape();
         if (latestFault != 0) {
             return -1 - tape.faultAt;
@@ -418,7 +418,8 @@ public final class OffTheLead {
 
     public int sentence() {
         tape.open(MOST_SENTENCE_BYTES);
-        draft.readAll(tape, now);
+        draft.clear();
+        draft.readCond(tape, now, 1);
         closeTape();
         if (latestFault != 0) {
             return -1 - tape.faultAt;
@@ -499,8 +500,14 @@ public final class OffTheLead {
             latestBoard.append(" on the lead");
             return;
         }
-        int from = Integer.numberOfTrailingZeros(free);
-        int to = from + Integer.numberOfTrailingZeros(~(free >>> from)) - 1;
+        int from = 0;
+        while (from < HOURS - 1 && (free >> from & 1) == 0) {
+            from++;
+        }
+        int to = from;
+        while (to < HOURS - 1 && (free >> (to + 1) & 1) == 1) {
+            to++;
+        }
         latestBoard.append(" free ");
         latestBoard.append(from);
         if (to > from) {
@@ -965,7 +972,8 @@ public final class OffTheLead {
             int found = 0;
             for (int p = 0; p < personCount; p++) {
                 Person person = persons[p];
-                if (person.place == l && (person.dogs != 0) == owners && (person.away > 0) == away) {
+                if (person.place == l && (person.dogs != 0) == owners
+                        && (person.away > 0) == away) {
                     found++;
                 }
             }
@@ -1056,17 +1064,10 @@ public final class OffTheLead {
         static final int MOST_FEAR = 30;
         static final int MOST_SKILL = 12;
 
-        private final Tape tape;
-        private final Park park;
         private int freeLines;
         private boolean signTold;
 
-        ParkReader(Tape tape, Park park) {
-            this.tape = tape;
-            this.park = park;
-        }
-
-        int readAll() {
+        int readAll(Tape tape, Park park) {
             park.clear();
             freeLines = 0;
             signTold = false;
@@ -1074,15 +1075,15 @@ public final class OffTheLead {
             boolean good = true;
             while (good && lines < MOST_PARK_BYTES && tape.sort != Tape.END) {
                 if (tape.word == Word.PLACE) {
-                    good = readPlace();
+                    good = readPlace(tape, park);
                 } else if (tape.word == Word.PERSON) {
-                    good = readPerson();
+                    good = readPerson(tape, park);
                 } else if (tape.word == Word.DOG) {
-                    good = readDog();
+                    good = readDog(tape, park);
                 } else if (tape.word == Word.FREE) {
-                    good = readFree();
+                    good = readFree(tape, park);
                 } else if (tape.word == Word.SIGN) {
-                    good = readSign();
+                    good = readSign(tape, park);
                 } else {
                     good = tape.refuse(CANT_COME);
                 }
@@ -1091,7 +1092,7 @@ public final class OffTheLead {
             return lines;
         }
 
-        private boolean readPlace() {
+        private boolean readPlace(Tape tape, Park park) {
             if (park.placeCount >= MOST_PLACES) {
                 return tape.refuse(TOO_MANY);
             }
@@ -1107,7 +1108,7 @@ public final class OffTheLead {
             return tape.takeMark(';');
         }
 
-        private boolean readPerson() {
+        private boolean readPerson(Tape tape, Park park) {
             if (park.personCount >= MOST_PERSONS) {
                 return tape.refuse(TOO_MANY);
             }
@@ -1127,7 +1128,7 @@ public final class OffTheLead {
             return tape.takeMark(';');
         }
 
-        private boolean readDog() {
+        private boolean readDog(Tape tape, Park park) {
             if (park.dogCount >= MOST_DOGS) {
                 return tape.refuse(TOO_MANY);
             }
@@ -1149,7 +1150,7 @@ public final class OffTheLead {
             return tape.takeMark(';');
         }
 
-        private boolean readFree() {
+        private boolean readFree(Tape tape, Park park) {
             if (freeLines >= MOST_FREE) {
                 return tape.refuse(TOO_MANY);
             }
@@ -1166,7 +1167,7 @@ public final class OffTheLead {
             return tape.takeMark(';');
         }
 
-        private boolean readSign() {
+        private boolean readSign(Tape tape, Park park) {
             if (signTold) {
                 return tape.refuse(WRONG_NAME);
             }
@@ -1230,8 +1231,8 @@ public final class OffTheLead {
                 return act != Word.NO_WORD;
             }
             if (act == Word.SIGN || act == Word.DAY) {
-                int least = act == Word.DAY ? 1 : 0;
-                boolean good = tape.takeNumber(least, act == Word.DAY ? MOST_DAYS_AT_ONCE : MOST_SIGN);
+                boolean good = act == Word.DAY
+                        ? tape.takeNumber(1, MOST_DAYS_AT_ONCE) : tape.takeNumber(0, MOST_SIGN);
                 whom[lines] = tape.taken;
                 return good;
             }
@@ -1343,29 +1344,32 @@ public final class OffTheLead {
             }
         }
 
-        void readAll(Tape tape, Park park) {
-            clear();
-            if (readCond(tape, park, 1) && tape.sort != Tape.END) {
-                tape.refuse(CANT_COME);
-            }
-        }
-
+        /** Reads ONES that are joined; behind the outermost ones the text has its end. */
         private boolean readCond(Tape tape, Park park, int depth) {
-            boolean good = readJoined(tape, park, depth);
-            for (int i = 0; i < MOST_ONES && good && tape.word == Word.OR; i++) {
-                tape.step();
-                good = readJoined(tape, park, depth);
+            boolean good = readOne(tape, park, depth);
+            boolean orWaits = false;
+            for (int i = 0; i < MOST_ONES && good; i++) {
+                if (tape.word == Word.AND) {
+                    tape.step();
+                    good = readOne(tape, park, depth);
+                    add(Word.AND, 0, 0);
+                } else if (tape.word == Word.OR) {
+                    // 'and' binds closer: an 'or' is said when all behind it is joined
+                    if (orWaits) {
+                        add(Word.OR, 0, 0);
+                    }
+                    orWaits = true;
+                    tape.step();
+                    good = readOne(tape, park, depth);
+                } else {
+                    break;
+                }
+            }
+            if (orWaits) {
                 add(Word.OR, 0, 0);
             }
-            return good;
-        }
-
-        private boolean readJoined(Tape tape, Park park, int depth) {
-            boolean good = readOne(tape, park, depth);
-            for (int i = 0; i < MOST_ONES && good && tape.word == Word.AND; i++) {
-                tape.step();
-                good = readOne(tape, park, depth);
-                add(Word.AND, 0, 0);
+            if (good && depth == 1 && tape.sort != Tape.END) {
+                return tape.refuse(CANT_COME);
             }
             return good;
         }
