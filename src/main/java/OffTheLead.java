@@ -1597,12 +1597,11 @@ public final class OffTheLead {
 
         /** PERSONS of a PARK go where it is best for each, till REST: in how many ROUNDS. */
         static int part(Park park) {
-            for (int round = 1; round < MOST_ROUNDS; round++) {
+            for (int round = 1; round <= MOST_ROUNDS; round++) {
                 if (!goRound(park)) {
                     return round;
                 }
             }
-            goRound(park);
             return MOST_ROUNDS;
         }
 

@@ -60,6 +60,8 @@ public final class BookTest {
         due.is("day", x.now(0), 2);
         due.is("empty", Due.book(x, "", 0), -1);
         toldIs(x, 0, 0, 2, 0);
+        due.is("sign 0", Due.book(x, "sign 0;", 1), -1);
+        due.is("sign 0", x.now(2), 0);
     }
 
     private static void wrongIs(String text, int line, int why) {

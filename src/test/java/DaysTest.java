@@ -42,6 +42,7 @@ public final class DaysTest {
         }
         due.is("odds of no person", x.odds(0, 1, 1), -1);
         due.is("odds of person -1", Due.parkOf("place a;person p a 1 1 1;").odds(-1, 1, 1), -1);
+        due.is("one seed", Due.parkOf("place a;person p a 1 1 1;").odds(0, 1, 1), 0);
         due.is("30 days", x.days(30, Integer.MIN_VALUE), 30);
         due.is("day 30", x.now(0), 30);
         due.is("undo", x.undo(), 0);

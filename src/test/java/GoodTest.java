@@ -10,6 +10,7 @@ public final class GoodTest {
         fences();
         rounds();
         partedStays();
+        awayOnesPartToo();
         due.finish("GoodTest");
     }
 
@@ -56,6 +57,8 @@ public final class GoodTest {
         // none at all is ahead of others that are as good
         OffTheLead y = Due.parkOf("place a;person o a 6 9 0;person p a 6 9 0;dog d o 0 0;free a 6 9;");
         bestIs(y, 0, 1, 4, -1, -1);
+        OffTheLead early = Due.parkOf("place a;person o a 0 0 0;person p a 0 0 0;dog d o 0 0;free a 0 0;");
+        bestIs(early, 0, 1, 1, -1, -1);
         // the least hours that begin first
         OffTheLead z = Due.parkOf("place a;person o a 0 0 0;person p a 1 5 0;person q a 6 6 0;dog d o 0 0;dog e q 0 0;");
         bestIs(z, 0, 1, 7, 0, 6);
@@ -104,6 +107,11 @@ public final class GoodTest {
         due.is("all like", x.fences(), 0);
         x.fence(1);
         due.is("the second then", x.fences(), 1);
+        // each place is fenced by itself, not beside those ahead of it
+        OffTheLead y = Due.parkOf("place a;place b;"
+                + "person o a 6 9 0;person p a 8 9 0;dog d o 0 0;free a 6 9;"
+                + "person r b 6 9 0;person q b 9 9 0;dog e r 0 0;free b 6 9;");
+        due.is("the first by itself", y.fences(), 0);
     }
 
     private static void rounds() {
@@ -139,6 +147,19 @@ public final class GoodTest {
         z.fence(1);
         due.is("one round, fenced", z.rounds(), 1);
         due.is("p stays behind a fence", z.parted(0), 1);
+    }
+
+    private static void awayOnesPartToo() {
+        OffTheLead x = Due.parkOf("place b;place a;person p a 6 9 9;person q b 7 7 9;person o a 6 9 0;person r b 7 7 0;"
+                + "dog d o 0 0;dog e r 0 0;free a 6 9;free b 7 7;");
+        x.days(1, 1);
+        due.is("p and q are away", x.now(1), 0b0011);
+        due.is("fences count who is away", x.fences(), 1);
+        due.is("rounds", x.rounds(), 2);
+        due.is("p parts", x.parted(0), 0);
+        due.is("good of all", x.partedGood(), 8);
+        x.come(0, 0, 6, 6);
+        due.is("fences count who is away", x.fences(), 0);
     }
 
     private static void partedStays() {

@@ -236,5 +236,35 @@ public final class ParkTest {
         due.is("bit", x.dog(0, 5), 0);
         due.is("no sentence", x.said(-1), -1);
         due.is("nothing to undo", x.undo(), -1);
+        nothingOfTheOneAhead();
+    }
+
+    private static void nothingOfTheOneAhead() {
+        String park = "place a;person p a 0 23 9;person q a 0 23 9;person o a 0 23 9;dog d o 0 12;dog e o 0 12;free a 0 23;";
+        OffTheLead x = Due.parkOf(park);
+        x.days(2, 3);
+        x.hold(1, 1);
+        due.is("both are away", x.now(1), 0b011);
+        // what is tried leaves no trace in what comes next
+        x.odds(0, 3, 3);
+        x.rounds();
+        x.fences();
+        Due.book(x, "d held;day 3;sign 9;", 0);
+        due.is("park", Due.park(x, park + "dog f p 1 1;"), 8);
+        int[][] persons = {{0, 0, 23, 9, 0, 0, 0, 0b100, 24}, {0, 0, 23, 9, 0, 0, 0, 0, 0}, {0, 0, 23, 9, 0, 0, 0, 0b011, 24}};
+        for (int p = 0; p < 3; p++) {
+            for (int what = 0; what < 9; what++) {
+                due.is("person " + p + " " + what, x.person(p, what), persons[p][what]);
+            }
+            for (int what = 3; what < 6; what++) {
+                due.is("dog " + p + " " + what, x.dog(p, what), 0);
+            }
+        }
+        due.is("sign", x.now(2), 2);
+        due.is("complaints", x.now(3), 0);
+        due.is("twelve free again", Due.park(x, "place a;" + "free a 1 1;".repeat(12) + "sign 3;"), 14);
+        due.is("and again", Due.park(x, "place a;" + "free a 1 1;".repeat(12) + "sign 3;"), 14);
+        due.is("nobody", x.count(1), 0);
+        due.is("no dogs", x.count(2), 0);
     }
 }

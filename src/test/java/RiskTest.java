@@ -79,6 +79,9 @@ public final class RiskTest {
         riskIs(x, 3, 0, 0, 1);
         x.come(1, 1, 7, 7);
         riskIs(x, 2, 2, 3, 4);
+        OffTheLead y = Due.parkOf("place a;person p a 7 7 5;person q a 7 7 5;person o a 7 7 5;dog d o 6 0;free a 0 23;");
+        riskIs(y, 0, 1, 1, 2);
+        riskIs(y, 1, 0, 0, 1);
     }
 
     private static void away() {

@@ -51,7 +51,9 @@ public final class SentenceTest {
         fits(x, "bites=1", 1, 1);
         fits(x, "bites<999", 1, 0, 1, 2, 3);
         fits(x, "meets o", 1, 1);
-        x.days(4, 5);
+        x.days(3, 5);
+        fits(x, "away", 1, 1);
+        x.days(1, 5);
         // what may be said follows what is so
         fits(x, "away", 1);
         x.days(1, 5);

@@ -97,7 +97,9 @@ public final class TellTest {
         meetingIs(x, 1, 1, 0, 1);
         meetingIs(x, 2, -1, -1, -1);
         meetingIs(x, -1, -1, -1, -1);
-        x.days(4, 1);
+        x.days(3, 1);
+        meetingIs(x, 1, 1, 0, 1);
+        x.days(1, 1);
         meetingIs(x, 1, 1, 1, 0);
     }
 
