@@ -52,7 +52,8 @@ public final class StrayTest {
             }
         }
         boolean lost = random.nextInt(10) == 0;
-        while (calls.size() < 480 && wrong == 0) {
+        // a text takes 51 calls at most, and no object has more than 512
+        while (calls.size() < 460 && wrong == 0) {
             int kind = random.nextInt(lost ? 3 : 24);
             if (calls.isEmpty() || kind == 0 && random.nextInt(8) == 0) {
                 give(park(), "park");
